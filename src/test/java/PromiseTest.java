@@ -250,6 +250,13 @@ public final class PromiseTest {
     due(6, "its number", x.air(3), 15);
     due(6, "of", x.air(4), 16);
     refused(6, "a seventeenth", ARGUMENT, x, () -> x.packet(2, 16));
+    CoverKeys nine = tree(8, -1, -2);
+    for (int d = 0; d < 18; d += 2) nine.subscribe(d, 0, true);
+    due(6, "nine subsets", nine.period(0, 1, 1), 9);
+    due(6, "the ninth alone", nine.packet(0, 1), 33);
+    due(6, "of two", nine.air(4), 2);
+    due(6, "the eight before it", nine.packet(0, 0), 229);
+    refused(6, "a third", ARGUMENT, nine, () -> nine.packet(0, 2));
   }
 
   private static void entry(CoverKeys x, int channel, int n, int at) {
@@ -483,6 +490,26 @@ public final class PromiseTest {
     x.period(0, 1, 1);
     due(14, "all: v and w", x.subset(0, 0, false) + x.subset(0, 0, true), 0);
     due(14, "one alone", subsets(x, 0), 1);
+    for (int d = 4; d < 8; d++) x.subscribe(d, 0, false);
+    x.period(0, 1, 1);
+    due(14, "the other half: v", x.subset(0, 0, false), 1);
+    due(14, "the other half: w", x.subset(0, 0, true), 3);
+    deepSubsets();
+  }
+
+  private static void deepSubsets() {
+    for (int d : new int[] {0, 100, 255}) {
+      CoverKeys x = tree(8, 1, 1);
+      subscribeAll(x, 0);
+      x.subscribe(d, 0, false);
+      due(14, "all of 256 but one", x.period(0, 1, 1), 1);
+      due(14, "its v", x.subset(0, 0, false), 1);
+      due(14, "its w", x.subset(0, 0, true), 256 + d);
+      x.install(d);
+      x.install(d ^ 1);
+      due(16, "the one", x.reach(d, 0), 0);
+      due(16, "its neighbour", x.reach(d ^ 1, 0), 1);
+    }
   }
 
   private static void label() {
@@ -541,6 +568,11 @@ public final class PromiseTest {
     byte[] some = next(next(next(sealed(31, 32, 0, 2), 2), 1), 3);
     due(17, "(2, 10)", x.key(2, 10, false), Model.half(some, false));
     due(17, "(2, 10), second half", x.key(2, 10, true), Model.half(some, true));
+    CoverKeys deep = tree(8, 31, 32);
+    byte[] way = sealed(31, 32, 0, 1);
+    for (int level = 0; level < 8; level++) way = next(way, 2);
+    due(17, "(1, 511) of depth 8", deep.key(1, 511, true), Model.half(next(way, 3), true));
+    refused(17, "(1, 512) of depth 8", ARGUMENT, deep, () -> deep.key(1, 512, true));
     int subsets = 0;
     for (int v = -2; v < 20; v++) {
       for (int w = -2; w < 20; w++) subsets += isKey(x, v, w);
