@@ -2,19 +2,25 @@ import java.util.ArrayList;
 import java.util.List;
 import java.util.Random;
 
-/** Long runs of calls, each run from a written seed, on CoverKeys and on the model: every answer must be the same. */
+/**
+ * Runs of as many calls as an object is used for, each run from a written seed, on CoverKeys and on the model:
+ * every answer must be the same.
+ */
 public final class ModelTest {
-  private static final int RUNS = 300;
-  private static final int CALLS = 512;
+  private static final int RUNS = 600;
+  // Of the calls of a run so many are left when the last subscriber of the crowd has come, and so many only look.
+  private static final int BEHIND_THE_CROWD = 256;
+  private static final int LOOKS = 60;
   private static final String[] NAMES = {
     "begin", "install", "subscribe", "period", "packet", "air", "flip", "hear", "has", "seal", "open", "out",
     "subset", "label", "reach", "key", "count"
   };
-  // How often each is called, in the order of the names.
+  // How often each is called, in the order of the names, and how often at the end, when the state is looked at.
   private static final int[] WEIGHTS = {1, 30, 90, 25, 60, 40, 60, 120, 30, 15, 30, 30, 30, 30, 25, 25, 20};
+  private static final int[] LOOKING = {0, 0, 0, 0, 0, 30, 0, 0, 30, 0, 0, 4, 20, 10, 20, 10, 20};
 
   private final Random random;
-  private final CoverKeys real = new CoverKeys();
+  private final Counted real = new Counted();
   private final Model model = new Model();
   private final List<String> told = new ArrayList<>();
   private int leaves = 16;
@@ -32,34 +38,35 @@ public final class ModelTest {
   }
 
   private boolean agrees(int run) {
-    if (run % 4 != 0 && !step(0, new long[] {1 + run % 8, random.nextLong(), random.nextLong()})) return false;
+    int depth = run % 9;
+    if (depth > 0 && !step(0, new long[] {depth, random.nextLong(), random.nextLong()})) return false;
     if (!crowd()) return false;
-    for (int c = 0; c < CALLS; c++) {
-      int op = pick();
+    while (real.callsLeft() > 0) {
+      int op = pick(real.callsLeft() > LOOKS ? WEIGHTS : LOOKING);
       if (!step(op, arguments(op))) return false;
-      boolean threw = told.get(told.size() - 1).contains("throws.");
-      if ((threw && c % 16 == 0 || c == CALLS - 1) && !sameState()) return false;
     }
     return true;
   }
 
   /** Random calls alone would seldom make large covers, so channels start with many subscribers. */
   private boolean crowd() {
-    for (int channel = 0; channel < 4; channel++) {
+    int first = random.nextInt(4);
+    for (int c = 0; c < 4; c++) {
       int share = random.nextInt(5);
       for (int d = 0; d < leaves; d++) {
-        if (random.nextInt(4) < share && !step(2, new long[] {d, channel, 1})) return false;
+        boolean comes = random.nextInt(4) < share && real.callsLeft() > BEHIND_THE_CROWD;
+        if (comes && !step(2, new long[] {d, (first + c) % 4, 1})) return false;
       }
     }
     return true;
   }
 
-  private int pick() {
+  private int pick(int[] weights) {
     int all = 0;
-    for (int weight : WEIGHTS) all += weight;
+    for (int weight : weights) all += weight;
     int at = random.nextInt(all);
     int op = 0;
-    while (at >= WEIGHTS[op]) at -= WEIGHTS[op++];
+    while (at >= weights[op]) at -= weights[op++];
     return op;
   }
 
@@ -109,17 +116,6 @@ public final class ModelTest {
     return random.nextInt(3) == 0 ? random.nextInt(3) - 1 : random.nextLong();
   }
 
-  private boolean sameState() {
-    for (int i = 0; i < 8; i++) if (!step(16, new long[] {i})) return false;
-    for (int i = 0; i < 2; i++) if (!step(11, new long[] {i})) return false;
-    for (int i = 0; i < 230; i++) if (!step(5, new long[] {i})) return false;
-    for (int channel = 0; channel < 4; channel++) {
-      for (int d = 0; d < leaves; d++) if (!step(8, new long[] {d, channel})) return false;
-      for (int n = 0; n < 130; n++) if (!step(12, new long[] {channel, n, n % 2})) return false;
-    }
-    return true;
-  }
-
   private boolean step(int op, long[] a) {
     String got = answer(op, a, true);
     String want = answer(op, a, false);
@@ -142,7 +138,7 @@ public final class ModelTest {
   }
 
   private String realAnswer(int op, long[] a) {
-    CoverKeys x = real;
+    Counted x = real;
     switch (NAMES[op]) {
       case "begin": x.begin((int) a[0], a[1], a[2]); return "done";
       case "install": return "" + x.install((int) a[0]);
@@ -190,7 +186,7 @@ public final class ModelTest {
   /** What a cover is for, whichever way it is found: each subscriber reaches one subset, nobody else any. */
   private static void everyCoverOfASmallTree() {
     for (int set = 0; set < 256; set++) {
-      CoverKeys x = new CoverKeys();
+      Counted x = new Counted();
       x.begin(3, 5, set);
       for (int d = 0; d < 8; d++) {
         x.install(d);
