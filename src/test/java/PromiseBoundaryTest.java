@@ -724,7 +724,8 @@ public final class PromiseBoundaryTest {
     int[][] none = {
       {0, 1}, {1, 0}, {0, -1}, {-1, 0}, {1, 1}, {2, 1}, {8, 8}, {15, 15}, {2, 3}, {3, 2}, {2, 6}, {4, 3}, {1, 16}, {1, 17},
       {8, 16}, {7, 31}, {16, 32}, {-1, -1}, {-1, -2}, {-1, 2}, {1, -2}, {1, LARGEST}, {1, LEAST}, {LARGEST, LARGEST},
-      {LEAST, LEAST}, {LEAST, 0}, {0, LEAST}, {LARGEST, 0}, {0, LARGEST}, {1, 1 << 30}, {257, 3}, {1, 259}, {65536, 65536}
+      {LEAST, LEAST}, {LEAST, 0}, {0, LEAST}, {LARGEST, 0}, {0, LARGEST}, {1, 1 << 30}, {257, 3}, {1, 259}, {65536, 65536},
+      {1 << 30, LEAST}, {1 << 23, LEAST}, {LARGEST, -2}, {LARGEST, -1}
     };
     for (int[] s : none) {
       String subset = "(" + s[0] + ", " + s[1] + ")";

@@ -584,7 +584,7 @@ public final class PromiseTest {
     refused("(1, 512) of depth 8", ARGUMENT, () -> Sentences.tree(8, 31, 32), y -> y.key(1, 512, true));
     int[][] none = {
       {0, 1}, {1, 0}, {1, 1}, {2, 1}, {2, 3}, {2, 6}, {8, 16}, {1, 16}, {15, 15}, {-1, -2}, {-1, 5}, {0, -1},
-      {1, LARGEST}, {LARGEST, LARGEST}, {LEAST, LEAST}
+      {1, LARGEST}, {LARGEST, LARGEST}, {LEAST, LEAST}, {1 << 30, LEAST}, {LARGEST, -2}
     };
     for (int[] s : none) {
       refused("(" + s[0] + ", " + s[1] + ")", ARGUMENT, PromiseTest::busy, y -> y.key(s[0], s[1], false));
